@@ -77,6 +77,7 @@ public final class Whichbox {
     private int now = 0;
     private int keeps = 0;
 
+    /** No boxes; time 0. */
     public Whichbox() {
         for (int door = 0; door < DOORS; door++) {
             doors[door] = new Door();

@@ -8,6 +8,8 @@ public final class StoriesTest {
     promise16GreatestTrust();
     promise16GreatestSetOfEqualTrust();
     promise16OnlyNeighboursCount();
+    promise16JammedDoorIsTrusted1();
+    promise16FindingIsTrusted50();
     promise17StoryOfAll();
     promise18PlaceOf();
     promise19Lies();
@@ -140,6 +142,45 @@ public final class StoriesTest {
     y.find(0, 10);
     Check.due("a finding behind the receiver", y.story(0), 4);
     Check.due("the place then", y.placeOf(0), 10);
+  }
+
+  private static void promise16JammedDoorIsTrusted1() {
+    Whichbox x = Check.oneBox(1, 1, 100);
+    x.setTrust(0, 1);
+    x.setTrust(4, 9);
+    x.scan(0, 0, 0);
+    x.lay(0, 0);
+    Check.due("the door that is trusted 9", x.story(0), 2);
+    x.jam(0, true);
+    Check.due("the door that is jammed, behind a courier trusted 1", x.story(0), 2);
+    x.scan(0, 0, 0);
+    Check.due("the door that is jammed, ahead of a courier trusted 1", x.story(0), 5);
+    Whichbox y = Check.oneBox(1, 1, 100);
+    y.setTrust(0, 1);
+    y.lay(0, 0);
+    y.scan(0, 0, 0);
+    y.jam(0, true);
+    Check.due("the courier trusted 1, behind the jammed door", y.story(0), 2);
+  }
+
+  private static void promise16FindingIsTrusted50() {
+    Whichbox x = Check.oneBox(1, 1, 100);
+    x.find(0, 10);
+    scanFifty(x);
+    Check.due("a finding ahead of scans trusted 50 together", x.story(0), 0b111111_0);
+    Whichbox y = Check.oneBox(1, 1, 100);
+    scanFifty(y);
+    y.find(0, 10);
+    Check.due("a finding behind scans trusted 50 together", y.story(0), 64);
+  }
+
+  /** Tells five scans trusted 9 and one trusted 5, all at one place. */
+  private static void scanFifty(Whichbox x) {
+    x.setTrust(0, 9);
+    for (int scan = 0; scan < 5; scan++) {
+      x.scan(0, 0, 1);
+    }
+    x.scan(0, 1, 1);
   }
 
   private static void promise17StoryOfAll() {
