@@ -524,19 +524,20 @@ public final class Whichbox {
             times[scan] = time;
             places[scan] = place;
             makers[scan] = maker;
-            follows[scan] = followedBy(time, place);
+            follows[scan] = scansAheadOf(time, place);
             scanCount++;
             return scan;
         }
 
-        private int followedBy(int time, int place) {
-            int followed = minutesBetween(DEPOT, place) <= time ? 1 << START : 0;
+        /** Returns the set of scans so far that one at this time and place can follow. */
+        private int scansAheadOf(int time, int place) {
+            int ahead = minutesBetween(DEPOT, place) <= time ? 1 << START : 0;
             for (int scan = 0; scan < scanCount; scan++) {
                 if (minutesBetween(places[scan], place) <= time - times[scan]) {
-                    followed |= 1 << scan;
+                    ahead |= 1 << scan;
                 }
             }
-            return followed;
+            return ahead;
         }
 
         /** Tells whether a story can go on from a scan, or from its start if that is NONE, to the next. */
