@@ -429,7 +429,7 @@ public final class Whichbox {
     }
 
     private int trustOf(int maker) {
-        if (maker == FINDING) {
+        if (!isWithin(maker, 0, FINDING - 1)) {
             return TRUST_OF_FINDING;
         }
         if (maker >= FIRST_DOOR && doors[maker - FIRST_DOOR].jammed) {

@@ -64,6 +64,7 @@ final class Check {
     all.append(x.insurers()).append(' ').append(x.entries());
     for (int box = 0; box < x.boxes(); box++) {
       all.append(" b").append(box).append(' ').append(x.scans(box)).append(' ').append(x.story(box));
+      all.append(' ').append(x.storyOfAll(box));
       all.append(' ').append(x.placeOf(box)).append(' ').append(x.hasFee(box)).append(' ');
       all.append(x.isInsured(box)).append(' ').append(x.fine(box));
     }
