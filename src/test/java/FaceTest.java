@@ -44,14 +44,23 @@ public final class FaceTest {
     Check.due("NONE", Whichbox.NONE, -1);
     Check.due("RECEIVER", Whichbox.RECEIVER, 30);
     Check.same("the class", Modifier.toString(Whichbox.class.getModifiers()), "public final");
-    Check.same("the methods", publicMethods().toString(), new TreeSet<>(Set.of(FACE)).toString());
-    Check.same("the fields", publicFields().toString(), "[NONE, RECEIVER]");
+    Check.same("the methods", publicMethods().toString(), faceDue().toString());
+    Check.same("the fields", publicFields().toString(),
+        "[public static final int NONE, public static final int RECEIVER]");
     Constructor<?>[] made = Whichbox.class.getDeclaredConstructors();
     Check.due("constructors", made.length, 1);
     Check.due("parameters of the constructor", made[0].getParameterCount(), 0);
     Check.due("the constructor is public", Modifier.isPublic(made[0].getModifiers()), true);
-    noPrivateMethodIsNamedAsAPublicOne();
+    noMethodInsideIsNamedAsOneOfTheFace();
     Check.end();
+  }
+
+  private static Set<String> faceDue() {
+    Set<String> due = new TreeSet<>();
+    for (String each : FACE) {
+      due.add("public " + each);
+    }
+    return due;
   }
 
   private static Set<String> publicMethods() {
@@ -66,6 +75,7 @@ public final class FaceTest {
 
   private static String told(Method method) {
     StringBuilder line = new StringBuilder();
+    line.append(Modifier.toString(method.getModifiers())).append(' ');
     line.append(method.getReturnType().getSimpleName()).append(' ').append(method.getName()).append('(');
     String between = "";
     for (Class<?> each : method.getParameterTypes()) {
@@ -83,20 +93,28 @@ public final class FaceTest {
     Set<String> found = new TreeSet<>();
     for (Field each : Whichbox.class.getDeclaredFields()) {
       if (!Modifier.isPrivate(each.getModifiers())) {
-        found.add(each.getName());
+        found.add(Modifier.toString(each.getModifiers()) + " " + each.getType().getSimpleName() + " " + each.getName());
       }
     }
     return found;
   }
 
-  private static void noPrivateMethodIsNamedAsAPublicOne() {
+  private static void noMethodInsideIsNamedAsOneOfTheFace() {
     Set<String> names = new TreeSet<>();
     for (String each : FACE) {
       names.add(each.substring(each.indexOf(' ') + 1, each.indexOf('(')));
     }
-    for (Method each : Whichbox.class.getDeclaredMethods()) {
-      if (Modifier.isPrivate(each.getModifiers())) {
-        Check.due("a private method named " + each.getName(), names.contains(each.getName()), false);
+    noneIsNamed(names, Whichbox.class);
+    for (Class<?> each : Whichbox.class.getDeclaredClasses()) {
+      noneIsNamed(names, each);
+    }
+  }
+
+  private static void noneIsNamed(Set<String> names, Class<?> looked) {
+    for (Method each : looked.getDeclaredMethods()) {
+      boolean isOfFace = looked == Whichbox.class && Modifier.isPublic(each.getModifiers());
+      if (!isOfFace && !each.isSynthetic()) {
+        Check.due("a method inside named " + each.getName(), names.contains(each.getName()), false);
       }
     }
   }
